@@ -1,0 +1,119 @@
+import java.util.function.LongSupplier;
+
+/** What the tests share: feeding code as hexadecimal digits, reading sets as text, counting wrong answers. */
+final class Bench {
+    private static int wrong = 0;
+
+    private Bench() {
+    }
+
+    static void due(String what, Object got, Object want) {
+        if (!String.valueOf(got).equals(String.valueOf(want))) {
+            wrong++;
+            System.out.println(what + " answered " + got + ", due is " + want);
+        }
+    }
+
+    /** The answer of a call as text, or the name of what it throws. */
+    static String answer(LongSupplier call) {
+        try {
+            return String.valueOf(call.getAsLong());
+        } catch (RuntimeException e) {
+            return e.getClass().getSimpleName();
+        }
+    }
+
+    static String answer(Runnable call) {
+        return answer(() -> {
+            call.run();
+            return 0;
+        });
+    }
+
+    static void argument(String what, Runnable call) {
+        due(what, answer(call), "IllegalArgumentException");
+    }
+
+    static void state(String what, Runnable call) {
+        due(what, answer(call), "IllegalStateException");
+    }
+
+    static void fine(String what, Runnable call) {
+        due(what, answer(call), "0");
+    }
+
+    static int[] bytes(String hex) {
+        String digits = hex.replace(" ", "");
+        int[] bytes = new int[digits.length() / 2];
+        for (int i = 0; i < bytes.length; i++) {
+            bytes[i] = Integer.parseInt(digits.substring(2 * i, 2 * i + 2), 16);
+        }
+        return bytes;
+    }
+
+    static void feed(StrideWatch watch, String hex) {
+        feed(watch, bytes(hex));
+    }
+
+    static void feed(StrideWatch watch, int[] bytes) {
+        for (int from = 0; from < bytes.length; from += 16) {
+            int many = Math.min(16, bytes.length - from);
+            int[] words = new int[4];
+            for (int i = 0; i < many; i++) {
+                words[i / 4] |= bytes[from + i] << (24 - 8 * (i % 4));
+            }
+            watch.feed(many, words[0], words[1], words[2], words[3]);
+        }
+    }
+
+    static StrideWatch fed(String hex) {
+        StrideWatch watch = new StrideWatch();
+        feed(watch, hex);
+        return watch;
+    }
+
+    /** A set as "l u s" or "l", as "any", or as "-" where nothing came to. */
+    static String setAt(StrideWatch watch, int address, int location) {
+        if (watch.reached(address) == 0) {
+            return "-";
+        }
+        long low = watch.set(address, location, 0);
+        long high = watch.set(address, location, 1);
+        long step = watch.set(address, location, 2);
+        if (step == -1) {
+            return low == 0 && high == 0 ? "any" : "any with bounds";
+        }
+        return step == 0 && low == high ? String.valueOf(low) : low + " " + high + " " + step;
+    }
+
+    /** Gives sets, each as "location: l u s", "location: v" or "location: any". */
+    static void give(StrideWatch watch, String... sets) {
+        for (String set : sets) {
+            int colon = set.indexOf(':');
+            int location = Integer.parseInt(set.substring(0, colon).trim());
+            String[] parts = set.substring(colon + 1).trim().split(" ");
+            if (parts[0].equals("any")) {
+                watch.any(location);
+            } else if (parts.length == 1) {
+                watch.given(location, Long.parseLong(parts[0]), Long.parseLong(parts[0]), 0);
+            } else {
+                watch.given(location, Long.parseLong(parts[0]), Long.parseLong(parts[1]), Long.parseLong(parts[2]));
+            }
+        }
+    }
+
+    /** The set of location 0 behind one piece of code without jumps. */
+    static String behind(String hex, String... sets) {
+        StrideWatch watch = fed(hex + " C3");
+        give(watch, sets);
+        watch.look();
+        return setAt(watch, bytes(hex).length, 0);
+    }
+
+    static void end() {
+        if (wrong > 0) {
+            System.out.println(wrong + " wrong answers");
+            System.exit(1);
+        }
+    }
+}
