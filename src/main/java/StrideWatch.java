@@ -578,14 +578,6 @@ public final class StrideWatch {
             }
         }
 
-        void keepOnly(long number) {
-            if (holds(number)) {
-                become(number, number, 0);
-            } else {
-                becomeNone();
-            }
-        }
-
         void drop(long number) {
             if (step < 0) {
                 return;
@@ -987,25 +979,17 @@ public final class StrideWatch {
             }
         }
 
+        // Where one is a single number, cutting the other one to its bounds leaves that number or NONE.
         private void becomeEqual() {
-            boolean isXSingle = x.isSingle();
-            boolean isYSingle = y.isSingle();
-            long xLow = x.low;
-            long xHigh = x.high;
-            if (isXSingle || isYSingle) {
-                if (isYSingle) {
-                    x.keepOnly(y.low);
-                }
-                if (isXSingle) {
-                    y.keepOnly(xLow);
-                }
-            } else if (x.isAny()) {
+            if (x.isAny()) {
                 x.copyFrom(y);
             } else if (y.isAny()) {
                 y.copyFrom(x);
             } else {
+                long from = x.low;
+                long to = x.high;
                 x.cut(y.low, y.high);
-                y.cut(xLow, xHigh);
+                y.cut(from, to);
             }
         }
 

@@ -127,6 +127,8 @@ public final class DecodeTest {
         is("48 39 65 F8", 4, 7, 64, 16, 4, 0, 0);
         for (String offset : new String[] {"00", "08", "40", "7F", "80", "B8", "BF", "C1", "F9", "FF"}) {
             bad("48 89 45 " + offset);
+            bad("48 8B 45 " + offset);
+            bad("48 39 45 " + offset);
         }
         bad("89 45 F8");
         bad("49 89 45 F8");

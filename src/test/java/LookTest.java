@@ -10,9 +10,11 @@ public final class LookTest {
         joins();
         wideningUp();
         wideningDown();
+        wideningInSteps();
         wideningToAny();
         wideningOnlyWhereItGoesBack();
         sixtyRoundsAreTheMost();
+        tiredAtTheFirstPoint();
         tiredForgets();
         lookingAgain();
         Bench.end();
@@ -106,6 +108,17 @@ public final class LookTest {
         Bench.due("behind the loop", Bench.setAt(watch, 14, 1), -B + 2 + " -42 3");
     }
 
+    private static void wideningInSteps() {
+        StrideWatch watch = Bench.fed("B9 02 00 00 00 48 83 F9 28 7D 06 48 83 C1 07 EB F4 C3");
+        Bench.due("rounds of a loop by sevens", watch.look(), 4);
+        // B is 2 more than a multiple of 7, as 2 ^ 3 is 1 more, so that the widest bound is B itself.
+        Bench.due("at the head of a loop by sevens", Bench.setAt(watch, 5, 1), "2 " + B + " 7");
+        StrideWatch other = Bench.fed("B9 01 00 00 00 48 83 F9 28 7D 06 48 83 C1 07 EB F4 C3");
+        other.look();
+        Bench.due("at the head of another one", Bench.setAt(other, 5, 1), "1 " + (B - 1) + " 7");
+        Bench.due("behind another one", Bench.setAt(other, 17, 1), "43 " + (B - 1) + " 7");
+    }
+
     private static void wideningToAny() {
         StrideWatch watch = Bench.fed("31 C9 48 83 C1 04 48 83 F9 28 7C F6 C3");
         Bench.due("rounds of a loop that comes to any", watch.look(), 5);
@@ -145,6 +158,16 @@ public final class LookTest {
         reached(tired, 0, 0, 10, 0, 13, 0);
         Bench.state("set when it is tired", () -> tired.set(0, 0, 0));
         Bench.due("has when it is tired", tired.has(0, 0, 0), false);
+    }
+
+    private static void tiredAtTheFirstPoint() {
+        StringBuilder hex = new StringBuilder("E9 79 00 00 00 48 FF C3 EB F6 EB F9");
+        for (int i = 1; i < 59; i++) {
+            hex.append(" EB FC");
+        }
+        StrideWatch watch = Bench.fed(hex.toString());
+        watch.given(3, 0, 0, 0);
+        Bench.due("when only point 0 is left", watch.look(), StrideWatch.NONE);
     }
 
     private static void tiredForgets() {
