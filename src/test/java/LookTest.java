@@ -109,6 +109,11 @@ public final class LookTest {
     }
 
     private static void wideningInSteps() {
+        StrideWatch ones = Bench.fed("31 C9 48 83 F9 28 7D 05 48 FF C1 EB F5 C3");
+        Bench.due("rounds of a loop by ones", ones.look(), 4);
+        Bench.due("at the head of a loop by ones", Bench.setAt(ones, 2, 1), "0 " + B + " 1");
+        Bench.due("in a loop by ones", Bench.setAt(ones, 8, 1), "0 39 1");
+        Bench.due("behind a loop by ones", Bench.setAt(ones, 13, 1), "40 " + B + " 1");
         StrideWatch watch = Bench.fed("B9 02 00 00 00 48 83 F9 28 7D 06 48 83 C1 07 EB F4 C3");
         Bench.due("rounds of a loop by sevens", watch.look(), 4);
         // B is 2 more than a multiple of 7, as 2 ^ 3 is 1 more, so that the widest bound is B itself.
