@@ -110,6 +110,58 @@ final class Bench {
         return setAt(watch, bytes(hex).length, 0);
     }
 
+    /** All that decode tells, and the constant: length, operation, width, first, other, detail, constant. */
+    static String told(String hex) {
+        return told(fed(hex), 0);
+    }
+
+    static String told(StrideWatch watch, int address) {
+        StringBuilder all = new StringBuilder();
+        for (int what = 0; what <= 5; what++) {
+            all.append(watch.decode(address, what)).append(' ');
+        }
+        return all.append(watch.constant(address)).toString();
+    }
+
+    /** What is told of an instruction that is BAD. */
+    static final String BAD = "-1 -1 -1 -1 -1 -1 0";
+
+    static boolean isBad(String hex) {
+        return told(hex).equals(BAD);
+    }
+
+    static String hex(int oneByte) {
+        return Integer.toHexString(256 + (oneByte & 255)).substring(1).toUpperCase();
+    }
+
+    static String nops(int many) {
+        return "90 ".repeat(many);
+    }
+
+    /** The sets of 0 and 1 where the jump is not taken and where it is, behind what sets the flags. */
+    static String edges(String flags, int condition, String a, String b) {
+        String jump = "7" + Integer.toHexString(condition) + " 01";
+        StrideWatch watch = fed(flags + jump + "C3 C3");
+        give(watch, "0:" + a, "1:" + b);
+        watch.look();
+        int behind = bytes(flags).length + 2;
+        return pair(watch, behind) + " | " + pair(watch, behind + 1);
+    }
+
+    static String pair(StrideWatch watch, int address) {
+        return watch.reached(address) == 0 ? "-" : setAt(watch, address, 0) + ", " + setAt(watch, address, 1);
+    }
+
+    /** A run that is started, with the first locations set. */
+    static StrideWatch started(String hex, long... values) {
+        StrideWatch watch = fed(hex);
+        for (int i = 0; i < values.length; i++) {
+            watch.put(i, values[i]);
+        }
+        watch.start();
+        return watch;
+    }
+
     static void end() {
         if (wrong > 0) {
             System.out.println(wrong + " wrong answers");

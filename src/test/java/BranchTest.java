@@ -15,26 +15,11 @@ public final class BranchTest {
         Bench.end();
     }
 
-    /** The sets of 0 and 1 where the jump is not taken and where it is, behind what sets the flags. */
-    private static String edges(String flags, int condition, String a, String b) {
-        String jump = "7" + Integer.toHexString(condition) + " 01";
-        StrideWatch watch = Bench.fed(flags + jump + "C3 C3");
-        Bench.give(watch, "0:" + a, "1:" + b);
-        watch.look();
-        int behind = Bench.bytes(flags).length + 2;
-        return pair(watch, behind) + " | " + pair(watch, behind + 1);
-    }
-
-    private static String pair(StrideWatch watch, int address) {
-        return watch.reached(address) == 0 ? "-"
-            : Bench.setAt(watch, address, 0) + ", " + Bench.setAt(watch, address, 1);
-    }
-
     /** By CMP of 0 with 1; both the condition and its opposite, whose edges are the other way round. */
     private static void compared(int condition, String a, String b, String no, String yes) {
         String what = "cmp " + a + " with " + b + " by " + condition;
-        Bench.due(what, edges("48 39 C8", condition, a, b), no + " | " + yes);
-        Bench.due(what + " turned", edges("48 39 C8", condition + 1, a, b), yes + " | " + no);
+        Bench.due(what, Bench.edges("48 39 C8", condition, a, b), no + " | " + yes);
+        Bench.due(what + " turned", Bench.edges("48 39 C8", condition + 1, a, b), yes + " | " + no);
     }
 
     private static void equality() {
@@ -111,8 +96,8 @@ public final class BranchTest {
 
     private static void result(String flags, int condition, String a, String no, String yes) {
         String what = flags + " of " + a + " by " + condition;
-        Bench.due(what, edges(flags, condition, a, "any"), no + " | " + yes);
-        Bench.due(what + " turned", edges(flags, condition + 1, a, "any"), yes + " | " + no);
+        Bench.due(what, Bench.edges(flags, condition, a, "any"), no + " | " + yes);
+        Bench.due(what + " turned", Bench.edges(flags, condition + 1, a, "any"), yes + " | " + no);
     }
 
     private static void results() {
@@ -140,7 +125,7 @@ public final class BranchTest {
 
     /** Whether an equal jump behind these bytes tells something of location 0, which holds 0 20 4 there. */
     private static void tells(String flags, String set, String want) {
-        Bench.due("je behind " + flags, edges(flags, 4, set, "any"), want);
+        Bench.due("je behind " + flags, Bench.edges(flags, 4, set, "any"), want);
     }
 
     private static void whereFlagsComeFrom() {
@@ -186,9 +171,9 @@ public final class BranchTest {
         tells("48 85 C0 48 89 C0", "0 20 4", nothing);
         tells("48 85 C0 48 F7 D0 48 F7 D0", "0 20 4", nothing);
         tells("48 85 C0 48 63 C0", "0 20 4", nothing);
-        Bench.due("mov of y behind cmp", edges("48 39 C8 48 89 D1", 4, "0 20 4", "8"), "0 20 4, any | 0 20 4, any");
-        Bench.due("mov of another behind cmp", edges("48 39 C8 48 89 CA", 4, "0 20 4", "8"), "0 20 4, 8 | 8, 8");
-        Bench.due("two jumps behind one cmp", edges("48 39 C8 7C 7F", 4, "0 20 4", "8"), "12 20 4, 8 | 8, 8");
+        Bench.due("mov of y behind cmp", Bench.edges("48 39 C8 48 89 D1", 4, "0 20 4", "8"), "0 20 4, any | 0 20 4, any");
+        Bench.due("mov of another behind cmp", Bench.edges("48 39 C8 48 89 CA", 4, "0 20 4", "8"), "0 20 4, 8 | 8, 8");
+        Bench.due("two jumps behind one cmp", Bench.edges("48 39 C8 7C 7F", 4, "0 20 4", "8"), "12 20 4, 8 | 8, 8");
     }
 
     private static void recordsThatMeet() {
@@ -196,8 +181,8 @@ public final class BranchTest {
         Bench.give(watch, "0:0 10 1", "1:0 10 1");
         watch.look();
         Bench.due("points that differ in the record", watch.reached(9), 2);
-        Bench.due("records that differ, not taken", pair(watch, 11), "0 10 1, 0 10 1");
-        Bench.due("records that differ, taken", pair(watch, 12), "0 10 1, 0 10 1");
+        Bench.due("records that differ, not taken", Bench.pair(watch, 11), "0 10 1, 0 10 1");
+        Bench.due("records that differ, taken", Bench.pair(watch, 12), "0 10 1, 0 10 1");
         StrideWatch same = Bench.fed("48 85 D2 74 05 48 83 F9 05 90 48 83 F9 05 74 01 C3 C3");
         Bench.give(same, "1:0 10 1");
         same.look();

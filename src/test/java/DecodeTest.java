@@ -16,22 +16,12 @@ public final class DecodeTest {
         Bench.end();
     }
 
-    /** All that decode tells, and the constant: length, operation, width, first, other, detail, constant. */
-    private static String told(String hex) {
-        StrideWatch watch = Bench.fed(hex);
-        StringBuilder all = new StringBuilder();
-        for (int what = 0; what <= 5; what++) {
-            all.append(watch.decode(0, what)).append(' ');
-        }
-        return all.append(watch.constant(0)).toString();
-    }
-
     private static void is(String hex, long... want) {
         StringBuilder all = new StringBuilder();
         for (int i = 0; i < want.length; i++) {
             all.append(i == 0 ? "" : " ").append(want[i]);
         }
-        Bench.due("decode of " + hex, told(hex), all.toString());
+        Bench.due("decode of " + hex, Bench.told(hex), all.toString());
     }
 
     private static void bad(String hex) {
@@ -211,8 +201,8 @@ public final class DecodeTest {
     private static void everySingleByte() {
         String good = "";
         for (int first = 0; first < 256; first++) {
-            String hex = Integer.toHexString(256 + first).substring(1).toUpperCase();
-            if (!told(hex + " C1 00 00 00 00 00 00 00 00").startsWith("-1 ")) {
+            String hex = Bench.hex(first);
+            if (!Bench.told(hex + " C1 00 00 00 00 00 00 00 00").startsWith("-1 ")) {
                 good += hex + " ";
             }
         }

@@ -18,15 +18,6 @@ public final class RunTest {
         Bench.end();
     }
 
-    private static StrideWatch started(String hex, long... values) {
-        StrideWatch watch = Bench.fed(hex);
-        for (int i = 0; i < values.length; i++) {
-            watch.put(i, values[i]);
-        }
-        watch.start();
-        return watch;
-    }
-
     private static void withoutRun() {
         StrideWatch watch = Bench.fed("90");
         watch.put(0, 7);
@@ -49,7 +40,7 @@ public final class RunTest {
     }
 
     private static void startingAgain() {
-        StrideWatch watch = started("48 FF C0 C3", 5);
+        StrideWatch watch = Bench.started("48 FF C0 C3", 5);
         Bench.due("go", watch.go(1), 0);
         Bench.due("value", watch.value(0), 6);
         watch.put(0, 50);
@@ -77,7 +68,7 @@ public final class RunTest {
     }
 
     private static void ends(String hex, int outcome, int where) {
-        StrideWatch watch = started(hex);
+        StrideWatch watch = Bench.started(hex);
         Bench.due("go of " + hex, watch.go(1000), outcome);
         Bench.due("at of " + hex, watch.at(), where);
         Bench.due("go again of " + hex, watch.go(1), outcome);
@@ -102,24 +93,24 @@ public final class RunTest {
     }
 
     private static void manyInstructions() {
-        StrideWatch watch = started("48 FF C0 EB FB");
+        StrideWatch watch = Bench.started("48 FF C0 EB FB");
         Bench.due("go 1000", watch.go(1000), 0);
         Bench.due("value behind 1000", watch.value(0), 500);
         Bench.due("at behind 1000", watch.at(), 0);
         Bench.due("go 1", watch.go(1), 0);
         Bench.due("value behind 1001", watch.value(0), 501);
         Bench.due("at behind 1001", watch.at(), 3);
-        StrideWatch ending = started("90 90 C3");
+        StrideWatch ending = Bench.started("90 90 C3");
         Bench.due("go just up to END", ending.go(2), 0);
         Bench.due("at END", ending.at(), 2);
         Bench.due("go at END", ending.go(1), 1);
-        StrideWatch further = started("90 90 C3");
+        StrideWatch further = Bench.started("90 90 C3");
         Bench.due("go one further", further.go(3), 1);
         Bench.due("at one further", further.at(), 2);
     }
 
     private static void leadingOut() {
-        StrideWatch watch = started("90 48 FF C0");
+        StrideWatch watch = Bench.started("90 48 FF C0");
         Bench.due("go that leads out", watch.go(2), 0);
         Bench.due("at when it is out", watch.at(), OUT);
         Bench.due("value when it is out", watch.value(0), 1);
@@ -145,10 +136,10 @@ public final class RunTest {
         ends("48 39 C0 48 C1 E0 01 48 39 C0 74 00 C3", 1, 12);
         for (String hex : new String[] {"48 01 C0", "48 09 C0", "48 21 C0", "48 29 C0", "48 31 C0", "48 39 C0", "48 85 C0",
             "48 F7 D8", "48 F7 C0 01 00 00 00", "01 C0", "85 C0"}) {
-            StrideWatch watch = started(hex + "74 00 C3");
+            StrideWatch watch = Bench.started(hex + "74 00 C3");
             Bench.due("flags behind " + hex, watch.go(10), 1);
         }
-        StrideWatch fresh = started("48 39 C0 EB 00 C3");
+        StrideWatch fresh = Bench.started("48 39 C0 EB 00 C3");
         fresh.go(10);
         Bench.due("erase", fresh.erase(), 6);
         Bench.feed(fresh, "74 00");
@@ -157,7 +148,7 @@ public final class RunTest {
     }
 
     private static void wrongNumbers() {
-        StrideWatch watch = started("90 90");
+        StrideWatch watch = Bench.started("90 90");
         for (int many : new int[] {0, -1, 1001, Integer.MIN_VALUE, Integer.MAX_VALUE}) {
             Bench.argument("go " + many, () -> watch.go(many));
         }
@@ -169,7 +160,7 @@ public final class RunTest {
     }
 
     private static void is(String hex, long a, long b, long want) {
-        StrideWatch watch = started(hex, a, b);
+        StrideWatch watch = Bench.started(hex, a, b);
         Bench.due("go of " + hex, watch.go(1), 0);
         Bench.due(hex + " of " + a + ", " + b, watch.value(0), want);
         Bench.due("the other one of " + hex, watch.value(1), b);
@@ -241,7 +232,7 @@ public final class RunTest {
     }
 
     private static void stackPlaces() {
-        StrideWatch watch = started("48 89 45 C0 48 83 45 C0 05 48 8B 4D C0 48 FF 4D F8 48 C7 45 F0 FF FF FF FF C3", 7);
+        StrideWatch watch = Bench.started("48 89 45 C0 48 83 45 C0 05 48 8B 4D C0 48 FF 4D F8 48 C7 45 F0 FF FF FF FF C3", 7);
         Bench.due("go on the stack", watch.go(100), 1);
         Bench.due("the last place", watch.value(23), 12);
         Bench.due("read from it", watch.value(1), 12);
