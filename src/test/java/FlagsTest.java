@@ -4,7 +4,7 @@ import java.math.BigInteger;
 public final class FlagsTest {
     private static final long[] NUMBERS = {0, 1, 2, 5, -1, -2, -5, 127, -128, 0x7FFFFFFFL, 0x80000000L, 0x80000001L,
         0xFFFFFFFFL, 0x100000000L, -0x80000000L, -0x80000001L, Long.MAX_VALUE, Long.MAX_VALUE - 1, Long.MIN_VALUE,
-        Long.MIN_VALUE + 1, 0x7FFFFFFF00000000L, 0x123456789ABCDEFL};
+        Long.MIN_VALUE + 1, 0x7FFFFFFF00000000L, 0x123456789ABCDEFL, 0x5555555555555555L, 0xAAAAAAAAAAAAAAAAL};
     private static final int[] CONDITIONS = {0, 1, 2, 3, 4, 5, 6, 7, 8, 9, 12, 13, 14, 15};
 
     private boolean zero;
@@ -23,6 +23,7 @@ public final class FlagsTest {
             }
         }
         flagsThatStay();
+        flagsThatGo();
         Bench.end();
     }
 
@@ -124,6 +125,26 @@ public final class FlagsTest {
             String what = hex + " of " + a + ", " + b + " by " + condition;
             Bench.due("go of " + what, watch.go(10), 1);
             Bench.due(what, watch.at(), length + (holds(condition) ? 3 : 2));
+        }
+    }
+
+    /** C and O of what stood before are no more behind AND, OR, XOR and TEST, Z and S behind all that sets flags. */
+    private static void flagsThatGo() {
+        for (String before : new String[] {"48 39 DA", "48 01 F6", "48 01 FF"}) {
+            for (String hex : new String[] {"21 C8", "09 C8", "31 C8", "85 C8", "F7 C0 05 00 00 00", "83 E0 05", "83 C8 05", "83 F0 02"}) {
+                for (String rex : new String[] {"", "48"}) {
+                    // Not overflow, not carry, not sign: each of the three jumps leads over an END.
+                    StrideWatch watch = Bench.fed(before + rex + hex + "71 01 C3 73 01 C3 79 01 C3 75 01 C3 90");
+                    watch.put(0, 5);
+                    watch.put(1, 7);
+                    watch.put(2, 1);
+                    watch.put(3, 2);
+                    watch.put(6, Long.MIN_VALUE);
+                    watch.put(7, Long.MAX_VALUE);
+                    watch.start();
+                    Bench.due("flags of " + before + " behind " + rex + hex, watch.go(100), 3);
+                }
+            }
         }
     }
 

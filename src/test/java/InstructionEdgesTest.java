@@ -27,6 +27,7 @@ public final class InstructionEdgesTest {
         bytesBeyondAFullCode();
         whatIsToldFromNineteenOn();
         allIsNoneOfBad();
+        oneBehindAnother();
         numbersThatAreNoWhat();
         Bench.end();
     }
@@ -381,6 +382,24 @@ public final class InstructionEdgesTest {
         for (String hex : new String[] {"06", "48 83 C4 08", "83 D0 05", "7A 05", "0F 8B 05 00 00 00", "48 C1 E4 05", "C1 F0 05",
             "BC 05 00 00 00", "C7 C8 05 00 00 00", "F7 C8 05 00 00 00", "48 89 45 F9", "48 83 45 00 05", "E9 05 00 00"}) {
             bad(hex);
+        }
+    }
+
+    /** What is told of an instruction does not hang on what was told of another one before. */
+    private static void oneBehindAnother() {
+        String[] others = {"06", "48 C1 E0 3F", "7F 05", "48 83 C0 05", "48 89 45 C0", "83 C4 05", "C1 F0 05", "48 63 C1"};
+        for (String first : others) {
+            for (String second : WHOLE) {
+                StrideWatch watch = Bench.fed(first + second);
+                int length = Bench.bytes(first).length;
+                // A jump goes elsewhere here, as it stands elsewhere.
+                boolean jump = second.startsWith("7") || second.startsWith("E") || second.startsWith("0F 8");
+                String alone = Bench.told(second);
+                String want = jump ? alone.substring(0, alone.lastIndexOf(' ') + 1) + (length + Bench.bytes(second).length) : alone;
+                Bench.told(watch, 0);
+                Bench.due(second + " behind " + first, Bench.told(watch, length), want);
+                Bench.due(first + " before " + second, Bench.told(watch, 0), Bench.told(first));
+            }
         }
     }
 

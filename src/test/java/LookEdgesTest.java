@@ -16,6 +16,7 @@ public final class LookEdgesTest {
         sixtyRounds();
         tired();
         tiredAgain();
+        tiredWithPointsLeft();
         reachedWhereNothingCame();
         reachedBeforeLooking();
         theThreeNumbersOfASet();
@@ -206,6 +207,27 @@ public final class LookEdgesTest {
         Bench.due("look when it is not tired", watch.look(), 1);
         reached(watch, 0, 1, 3, 1, 5, 0, 10, 1, 11, 0, 129, 0);
         Bench.due("what was given", Bench.setAt(watch, 10, 1), "5");
+    }
+
+    /** What was still to be gone through when it was TIRED is not gone through later. */
+    private static void tiredWithPointsLeft() {
+        for (int many : new int[] {61, 62, 70, 90}) {
+            StrideWatch watch = Bench.fed(chain(many));
+            Bench.due("look at a chain of " + many, watch.look(), StrideWatch.NONE);
+            watch.given(0, 0, 0, 0);
+            Bench.due("look along one edge", watch.look(), 1);
+            reached(watch, 0, 1, 3, 1, 5, 0, 10, 1);
+            for (int address = 11; address < 11 + 2 * many; address++) {
+                Bench.due("reached " + address, watch.reached(address), 0);
+            }
+            watch.any(0);
+            Bench.due("look at a chain of " + many + " again", watch.look(), StrideWatch.NONE);
+            int length = watch.erase();
+            Bench.due("bytes of a chain of " + many, length, 11 + 2 * many);
+            Bench.feed(watch, "C3" + Bench.nops(length - 1));
+            Bench.due("look at other bytes", watch.look(), 1);
+            reached(watch, 0, 1, 10, 0, 11, 0, 13, 0, 2 * many - 50, 0);
+        }
     }
 
     /** "0 if nothing came to it (as to an address outside of the CODE)" */

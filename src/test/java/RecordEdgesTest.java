@@ -15,6 +15,7 @@ public final class RecordEdgesTest {
         results();
         testOfOneLocation();
         otherOperationsTakeItAway();
+        otherOperationsHaveNone();
         movesOfWhatIsInIt();
         movesOfOthers();
         pointZeroHasNoRecord();
@@ -149,6 +150,24 @@ public final class RecordEdgesTest {
             "48 83 C3 01", "48 FF C3", "48 FF CB", "48 F7 DB", "48 83 FB 01"}) {
             je(TEST + other, "0 20 4", TELLS_NOTHING);
         }
+    }
+
+    /** The same of location 0 itself: either edge has the same SETS then. */
+    private static void otherOperationsHaveNone() {
+        String[] others = {"48 0F AF C1", "0F AF C1", "48 C1 E0 00", "48 C1 E8 00", "48 C1 F8 00", "48 C1 E0 02", "48 C1 E8 02", "48 C1 F8 02",
+            "C1 E0 00", "C1 E8 00", "C1 F8 00", "01 C8", "09 C8", "21 C8", "29 C8", "31 C8", "39 C8", "85 C0", "85 C8", "83 C0 00", "83 C8 00",
+            "83 E0 FF", "83 E8 00", "83 F0 00", "83 F8 00", "FF C0", "FF C8", "F7 D8", "F7 C0 01 00 00 00", "48 F7 C0 01 00 00 00", "48 85 C8"};
+        for (String other : others) {
+            for (int condition : new int[] {4, 5, 8, 9, 12, 15, 2, 7}) {
+                String[] edges = Bench.edges(other, condition, "0 20 4", "0 1 1").split(" \\| ");
+                Bench.due(condition + " behind " + other, edges[0], edges[1]);
+                if (edges[0].equals("-")) {
+                    Bench.due("the edges behind " + other, edges[0], "a pair of sets");
+                }
+            }
+        }
+        Bench.due("je behind imul", Bench.edges("48 0F AF C1", 4, "0 20 4", "1"), "0 20 4, 1 | 0 20 4, 1");
+        Bench.due("js behind imul", Bench.edges("48 0F AF C1", 8, "0 20 4", "-1"), "-20 0 4, -1 | -20 0 4, -1");
     }
 
     /** "MOV, SIGN, NOT of a LOCATION that is in it: none." */

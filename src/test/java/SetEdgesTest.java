@@ -21,6 +21,7 @@ public final class SetEdgesTest {
         widensDownwards();
         widensOnlyWhatMoves();
         widensFromTheThirdTimeOn();
+        widensBehindEdgesForward();
         sums();
         negatives();
         differences();
@@ -43,6 +44,7 @@ public final class SetEdgesTest {
         halfWidthIsOfSign();
         ofALocationWithItself();
         constantsThatAreTooLarge();
+        anyHasNoBounds();
         Bench.end();
     }
 
@@ -281,6 +283,9 @@ public final class SetEdgesTest {
         widened("-" + B, "" + (B - 1), triple(-B, B - 1, 2 * B - 1));
         widened("0 8 4", "10", triple(0, B, 2));
         widened("0", "any", "any");
+        widened("5", "any", "any");
+        widened("-5", "any", "any");
+        widened("-7 5 12", "any", "any");
     }
 
     /** "its l, if it is less than a's, is the least number from - B on that is l and a multiple of s" */
@@ -315,6 +320,21 @@ public final class SetEdgesTest {
         Bench.due("b when the point has got something three times", widen("0", "4", 2), triple(0, B, 4));
         Bench.due("b downwards, twice", widen("0", "-4", 1), "-4 0 4");
         Bench.due("b downwards, three times", widen("0", "-4", 2), triple(-B, 0, 4));
+    }
+
+    /** It counts how often the POINT got something, not along which edges: here three times forward, then once back. */
+    private static void widensBehindEdgesForward() {
+        String[][] rows = {{"5", "9", triple(5, B - 3, 4)}, {"5", "1", triple(1 - B, 5, 4)},
+            {"5", "any", "any"}, {"-5", "any", "any"}, {"-7 5 12", "any", "any"}, {"any", "5", "any"}};
+        for (String[] row : rows) {
+            StrideWatch watch = Bench.fed("BB 01 00 00 00 70 0C BB 02 00 00 00 70 05 BB 03 00 00 00 48 89 C8 EB FB");
+            Bench.give(watch, "0:" + row[0], "1:" + row[1]);
+            boolean changes = !row[0].equals("any");
+            Bench.due("look at " + row[0] + " by " + row[1], watch.look(), changes ? 2 : 1);
+            Bench.due("reached the head", watch.reached(19), changes ? 4 : 3);
+            Bench.due(row[0] + " widened by " + row[1], Bench.setAt(watch, 19, 0), row[2]);
+            Bench.due("what comes forward", Bench.setAt(watch, 19, 3), "1 3 1");
+        }
     }
 
     /** "ADD: (l + l', u + u', gcd(s, s')) .. ANY with ANY" */
@@ -680,6 +700,26 @@ public final class SetEdgesTest {
         is("48 01 C0", "-7 5 12", "-14 10 12");
         is("48 31 C8", "1 3 2", "1 3 2", "0 3 1");
         is("48 29 C8", "1 3 2", "1 3 2", "-2 2 2");
+    }
+
+    /** "of ANY s is -1, l and u 0", whatever was found before it */
+    private static void anyHasNoBounds() {
+        // Each makes ANY of location 0, behind one that makes -7 5 12 of location 3.
+        for (String hex : new String[] {"48 01 D0", "48 29 D0", "48 21 D0", "48 09 D0", "48 31 D0", "48 0F AF C2", "48 89 D0", "48 C1 E0 1F",
+            "48 C1 F8 01", "48 C1 E8 01", "48 F7 D8", "48 F7 D0", "48 FF C0", "48 FF C8"}) {
+            String whole = "48 89 CB" + hex;
+            boolean single = hex.startsWith("48 F7") || hex.startsWith("48 FF") || hex.startsWith("48 C1") && !hex.endsWith("1F");
+            for (String before : new String[] {"-7 5 12", "5 9 4", "-9 -5 4"}) {
+                Bench.due(whole, Bench.behind(whole, "0:" + (single ? "any" : "-5 -1 4"), "1:" + before, "2:any"), "any");
+            }
+        }
+        for (String before : new String[] {"-7 5 12", "5 9 4", "-9 -5 4"}) {
+            // Location 0 is joined before location 1 is, which comes to ANY.
+            StrideWatch watch = Bench.fed("48 85 D2 74 06 48 89 D8 48 89 F1 C3");
+            Bench.give(watch, "0:0", "1:" + before, "3:" + before);
+            watch.look();
+            Bench.due("a join with any behind " + before, Bench.setAt(watch, 11, 1), "any");
+        }
     }
 
     /** "Constants are [v] (ANY, if too large)." */
