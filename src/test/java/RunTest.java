@@ -14,7 +14,6 @@ public final class RunTest {
         operations();
         halfWidthOperations();
         stackPlaces();
-        readmeExample();
         Bench.end();
     }
 
@@ -245,19 +244,5 @@ public final class RunTest {
         frame.start();
         frame.go(5);
         Bench.due("rsp and rbp are read", frame.value(0), 1024);
-    }
-
-    private static void readmeExample() {
-        StrideWatch watch = new StrideWatch();
-        watch.feed(15, 0x31C94883, 0xF9287D06, 0x4883C104, 0xEBF4C300);
-        Bench.due("look of the README", watch.look(), 4);
-        Bench.due("low of the README", watch.set(8, 1, 0), 0);
-        Bench.due("high of the README", watch.set(8, 1, 1), 36);
-        Bench.due("step of the README", watch.set(8, 1, 2), 4);
-        Bench.due("has of the README", watch.has(8, 1, 13), false);
-        watch.start();
-        Bench.due("go of the README", watch.go(1000), 1);
-        Bench.due("at of the README", watch.at(), 14);
-        Bench.due("value of the README", watch.value(1), 40);
     }
 }
